@@ -1,0 +1,34 @@
+public final class Promise1NewObjectTest {
+    public static void main(String[] args) {
+        Run.of("nothing is settled in a new object",
+                "told(0, 0): throws.IllegalStateException",
+                "told(0, 1): throws.IllegalStateException",
+                "told(0, 2): throws.IllegalStateException",
+                "value(0): throws.IllegalStateException",
+                "wrong(): throws.IllegalStateException");
+        Run.of("a new object has no lines",
+                "form(1, 1, 0): throws.IllegalStateException",
+                "aim(0, 0, 0): throws.IndexOutOfBoundsException",
+                "clear(): 0",
+                "settle(): 0",
+                "told(0, 0): 0",
+                "told(0, 1): throws.IndexOutOfBoundsException",
+                "value(0): throws.IndexOutOfBoundsException",
+                "wrong(): -1");
+        Run.of("of several exceptions the first in the heading is thrown",
+                "form(0, 0, -1): throws.IllegalArgumentException",
+                "told(-1, 0): throws.IllegalStateException",
+                "value(-1): throws.IllegalStateException",
+                "told(-1, 3): throws.IllegalArgumentException");
+        objectsAreApart();
+        Run.end();
+    }
+
+    private static void objectsAreApart() {
+        Run one = new Run("one object of two").rows("line(): 0", "form(3, 8, 0): 1");
+        Run two = new Run("the other of two").rows("clear(): 0", "line(): 0");
+        one.rows("settle(): 0");
+        two.rows("wrong(): throws.IllegalStateException", "settle(): 0", "told(1, 0): 0");
+        one.rows("told(1, 0): 3");
+    }
+}

@@ -1,0 +1,31 @@
+public final class Promise9WrongTest {
+    public static void main(String[] args) {
+        Run.of("-1 if all fit",
+                "settle(): 0", "wrong(): -1",
+                "line(): 0", "settle(): 0", "wrong(): -1",
+                "form(1, 1, 0): 1", "form(1, 4, 0): 2", "aim(0, 0, 9): -", "settle(): 1", "wrong(): -1");
+        Run.of("the least that does not fit",
+                "line(): 0", "form(1, 8, 0): 1",
+                "line(): 1", "aim(1, 0, MIN): -",
+                "line(): 2", "form(1, 1, 0): 1", "aim(2, 0, 2): -",
+                "line(): 3", "form(1, 1, 0): 1", "aim(3, 0, 2): -",
+                "settle(): throws.UnsupportedOperationException", "wrong(): 2",
+                "aim(2, 0, 1): -", "settle(): throws.UnsupportedOperationException", "wrong(): 3",
+                "aim(0, 0, -1): -", "settle(): throws.UnsupportedOperationException", "wrong(): 0");
+        Run.of("the least may be one that has a next form",
+                "line(): 0", "form(1, 1, 0): 1", "form(1, 8, 0): 2", "aim(0, 0, 9): -",
+                "line(): 1", "form(1, 1, 0): 1", "aim(1, 0, 9): -",
+                "settle(): throws.UnsupportedOperationException", "wrong(): 0");
+        new Run("the end above 4096").lines(0, 65, "form(64, 8, 0)").rows(
+                "settle(): throws.IllegalStateException", "wrong(): -1",
+                "aim(40, 0, 256): -", "settle(): throws.IllegalStateException", "wrong(): 40");
+        Run.of("not settled since the latest change",
+                "wrong(): throws.IllegalStateException",
+                "settle(): 0", "wrong(): -1",
+                "line(): 0", "wrong(): throws.IllegalStateException",
+                "settle(): 0", "form(1, 1, 0): 1", "wrong(): throws.IllegalStateException",
+                "settle(): 0", "aim(0, 1, 0): -", "wrong(): throws.IllegalStateException",
+                "settle(): 0", "clear(): 1", "wrong(): throws.IllegalStateException");
+        Run.end();
+    }
+}
