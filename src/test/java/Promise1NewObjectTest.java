@@ -25,10 +25,11 @@ public final class Promise1NewObjectTest {
     }
 
     private static void objectsAreApart() {
-        Run one = new Run("one object of two").rows("line(): 0", "form(3, 8, 0): 1");
-        Run two = new Run("the other of two").rows("clear(): 0", "line(): 0");
-        one.rows("settle(): 0");
-        two.rows("wrong(): throws.IllegalStateException", "settle(): 0", "told(1, 0): 0");
-        one.rows("told(1, 0): 3");
+        Run one = new Run("one object of two").rows("line(): 0", "form(3, 2, 0): 1", "form(4, 8, 2): 2");
+        Run two = new Run("the other of two").rows("clear(): 0", "line(): 0", "form(9, 8, 0): 1");
+        one.rows("aim(0, 1, 6): -", "settle(): 1");
+        two.rows("wrong(): throws.IllegalStateException", "settle(): 0");
+        one.rows("told(0, 1): 1", "told(1, 0): 4", "value(0): 10", "settle(): 1", "told(1, 0): 4");
+        two.rows("told(0, 1): 0", "told(1, 0): 9", "value(0): 0", "settle(): 0", "told(1, 0): 9");
     }
 }
