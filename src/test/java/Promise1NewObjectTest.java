@@ -25,11 +25,13 @@ public final class Promise1NewObjectTest {
     }
 
     private static void objectsAreApart() {
-        Run one = new Run("one object of two").rows("line(): 0", "form(3, 2, 0): 1", "form(4, 8, 2): 2");
-        Run two = new Run("the other of two").rows("clear(): 0", "line(): 0", "form(9, 8, 0): 1");
-        one.rows("aim(0, 1, 6): -", "settle(): 1");
+        Run one = new Run("one object of two").rows("line(): 0", "form(3, 2, 0): 1", "form(4, 8, 0): 2");
+        Run two = new Run("the other of two").rows("clear(): 0", "line(): 0", "form(9, 8, 0): 1", "form(7, 8, 1): 2");
+        one.rows("aim(0, 1, 200): -", "settle(): 1");
         two.rows("wrong(): throws.IllegalStateException", "settle(): 0");
-        one.rows("told(0, 1): 1", "told(1, 0): 4", "value(0): 10", "settle(): 1", "told(1, 0): 4");
-        two.rows("told(0, 1): 0", "told(1, 0): 9", "value(0): 0", "settle(): 0", "told(1, 0): 9");
+        one.rows("told(0, 1): 1", "told(1, 0): 4", "value(0): 204", "settle(): 1", "told(1, 0): 4",
+                "form(1, 1, 0): 3");
+        two.rows("told(0, 1): 0", "told(1, 0): 9", "value(0): 0", "settle(): 0", "told(1, 0): 9",
+                "form(1, 1, 0): 3");
     }
 }
