@@ -23,20 +23,43 @@ public final class Promise8ValueTest {
         Run.of("of a line that does not fit",
                 "line(): 0", "form(1, 1, 0): 1", "form(3, 1, 0): 2", "aim(0, 1, 1): -",
                 "settle(): throws.UnsupportedOperationException", "value(0): 4");
-        Run.of("thrown as by told",
-                "value(0): throws.IllegalStateException",
-                "value(-1): throws.IllegalStateException",
-                "line(): 0",
-                "value(0): throws.IllegalStateException",
-                "settle(): 0",
-                "value(0): 0",
-                "value(1): throws.IndexOutOfBoundsException",
+        noSuchLine();
+        notSettledSinceTheLatestChange();
+        Run.end();
+    }
+
+    private static void noSuchLine() {
+        Run.of("without lines there is no value",
+                "settle(): 0", "value(0): throws.IndexOutOfBoundsException",
+                "value(-1): throws.IndexOutOfBoundsException");
+        Run.of("the end has no value, nor what is beyond the lines",
+                "line(): 0", "line(): 1", "form(6, 8, 0): 1", "aim(1, 2, 3): -", "settle(): 0",
+                "value(0): 0", "value(1): 9",
+                "value(2): throws.IndexOutOfBoundsException",
+                "value(3): throws.IndexOutOfBoundsException",
                 "value(-1): throws.IndexOutOfBoundsException",
                 "value(MIN): throws.IndexOutOfBoundsException",
                 "value(MAX): throws.IndexOutOfBoundsException",
-                "form(1, 1, 0): 1",
-                "value(0): throws.IllegalStateException",
-                "value(1): throws.IllegalStateException");
-        Run.end();
+                "value(1): 9");
+        new Run("the last of 120 lines has a value, the end behind it none").bareLines(0, 120).rows(
+                "aim(119, 120, 5): -", "settle(): 0", "value(119): 5", "value(120): throws.IndexOutOfBoundsException");
+        Run.of("the end has no value either when a settling threw",
+                "line(): 0", "form(6, 1, 0): 1", "aim(0, 1, 0): -", "settle(): throws.UnsupportedOperationException",
+                "value(0): 6", "value(1): throws.IndexOutOfBoundsException");
+    }
+
+    private static void notSettledSinceTheLatestChange() {
+        for (String change : new String[] {"line(): 1", "form(1, 8, 0): 2", "aim(0, 0, 3): -", "clear(): 1"}) {
+            Run.of("not settled since " + change + ", looked at before the line",
+                    "line(): 0", "form(1, 8, 0): 1", "aim(0, 0, 3): -",
+                    "value(0): throws.IllegalStateException", "settle(): 0", "value(0): 3",
+                    change,
+                    "value(0): throws.IllegalStateException",
+                    "value(1): throws.IllegalStateException",
+                    "value(2): throws.IllegalStateException",
+                    "value(-1): throws.IllegalStateException",
+                    "value(MAX): throws.IllegalStateException",
+                    "settle(): 0", "value(7): throws.IndexOutOfBoundsException");
+        }
     }
 }

@@ -1,8 +1,13 @@
+import java.util.List;
+
 /**
  * A run of calls on a new object, each row with the answer that is due: "told(0, 1): -1",
  * "aim(0, 1, 5): -" for a call without an answer, "line(): throws.IllegalStateException".
  */
 final class Run {
+    /** What later calls on one object answer is free. */
+    private static final int MOST_CALLS = 512;
+
     private static int wrong = 0;
     private static int calls = 0;
 
@@ -14,16 +19,30 @@ final class Run {
         this.name = name;
     }
 
-    static void of(String name, String... rows) {
-        new Run(name).rows(rows);
+    static Run of(String name, String... rows) {
+        return new Run(name).rows(rows);
     }
 
     Run rows(String... rows) {
+        return rows(List.of(rows));
+    }
+
+    Run rows(List<String> rows) {
         for (String text : rows) {
-            row++;
             check(text);
         }
         return this;
+    }
+
+    /** The answer of a call for which no answer is due yet. */
+    String answer(String call) {
+        row++;
+        if (row > MOST_CALLS) {
+            throw new AssertionError(name + ": more than " + MOST_CALLS + " calls");
+        }
+        int open = call.indexOf('(');
+        int close = call.indexOf(')');
+        return Calls.answer(x, call.substring(0, open), arguments(call.substring(open + 1, close)));
     }
 
     /** count lines, from number first on, each with the one form. */
@@ -51,10 +70,8 @@ final class Run {
     }
 
     private void check(String text) {
-        int open = text.indexOf('(');
-        int close = text.indexOf(')');
-        String due = text.substring(close + 1).replaceFirst("^:\\s*", "");
-        String got = Calls.answer(x, text.substring(0, open), arguments(text.substring(open + 1, close)));
+        String due = text.substring(text.indexOf(')') + 1).replaceFirst("^:\\s*", "");
+        String got = answer(text);
         calls++;
         if (!got.equals(due)) {
             wrong++;
