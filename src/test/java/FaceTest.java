@@ -21,30 +21,18 @@ public final class FaceTest {
             "long value(int) IllegalStateException IndexOutOfBoundsException",
             "int wrong() IllegalStateException"));
 
-    private static int wrong = 0;
-
     public static void main(String[] args) {
-        due(Modifier.isPublic(GrowForms.class.getModifiers()), "the class is public");
-        due(Modifier.isFinal(GrowForms.class.getModifiers()), "the class is final");
-        due(seen().equals(FACE), "the face is " + FACE + ", not " + seen());
+        Due.is(Modifier.isPublic(GrowForms.class.getModifiers()), "the class is public");
+        Due.is(Modifier.isFinal(GrowForms.class.getModifiers()), "the class is final");
+        Due.is(seen().equals(FACE), "the face is " + FACE + ", not " + seen());
         for (Method m : GrowForms.class.getDeclaredMethods()) {
-            due(Modifier.isPublic(m.getModifiers()) || !isOnFace(m.getName()), "no private method is named " + m.getName());
+            Due.is(Modifier.isPublic(m.getModifiers()) || !isOnFace(m.getName()), "no private method is named " + m.getName());
         }
         for (Field f : GrowForms.class.getDeclaredFields()) {
-            due(Modifier.isPrivate(f.getModifiers()), f.getName() + " is private");
-            due(!Modifier.isStatic(f.getModifiers()) || Modifier.isFinal(f.getModifiers()), f.getName() + " is final");
+            Due.is(Modifier.isPrivate(f.getModifiers()), f.getName() + " is private");
+            Due.is(!Modifier.isStatic(f.getModifiers()) || Modifier.isFinal(f.getModifiers()), f.getName() + " is final");
         }
-        System.out.println(wrong == 0 ? "the face is as due" : wrong + " faults in the face");
-        if (wrong != 0) {
-            System.exit(1);
-        }
-    }
-
-    private static void due(boolean holds, String what) {
-        if (!holds) {
-            wrong++;
-            System.out.println("is due: " + what);
-        }
+        Due.end("the face is as due");
     }
 
     private static boolean isOnFace(String name) {

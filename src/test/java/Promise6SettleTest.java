@@ -35,6 +35,11 @@ public final class Promise6SettleTest {
         Run.of("a form that fits again is not given back",
                 "line(): 0", "form(4, 2, 0): 1", "form(1, 8, 0): 2", "aim(0, 1, 0): -",
                 "settle(): 1", "told(0, 1): 1", "told(1, 0): 1", "value(0): 1");
+        Run.of("nor while others still grow",
+                "line(): 0", "form(1, 2, 0): 1", "form(1, 8, 0): 2",
+                "line(): 1", "form(4, 1, 0): 1", "form(1, 4, 0): 2", "form(2, 8, 0): 3",
+                "aim(0, 2, 0): -", "aim(1, 0, 20): -",
+                "settle(): 2", "told(0, 1): 1", "told(1, 1): 2", "told(2, 0): 3", "value(0): 3");
         Run.of("settled twice is settled the same",
                 "line(): 0", "form(1, 1, 0): 1", "form(2, 8, 0): 2", "aim(0, 1, 7): -",
                 "settle(): 1", "settle(): 1", "told(0, 1): 1", "told(1, 0): 2");
