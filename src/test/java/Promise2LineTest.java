@@ -15,6 +15,7 @@ public final class Promise2LineTest {
                 "told(1, 0): 5",
                 "told(2, 0): 5",
                 "value(1): 0");
+        everyNewLineIsBare();
         Run.of("a line made after clear keeps nothing of the one before it",
                 "line(): 0",
                 "form(5, 8, 0): 1",
@@ -50,6 +51,13 @@ public final class Promise2LineTest {
                 "wrong(): throws.IllegalStateException");
         atMost120Lines();
         Run.end();
+    }
+
+    private static void everyNewLineIsBare() {
+        Run run = new Run("each of 120 lines begins without forms, behind a line that has one");
+        for (int i = 0; i < 120; i++) {
+            run.rows("line(): " + i, "settle(): 0", "told(" + i + ", 1): -1", "form(1, 8, 0): 1");
+        }
     }
 
     private static void atMost120Lines() {

@@ -16,6 +16,16 @@ public final class Promise3FormTest {
                 "told(0, 0): 0",
                 "told(1, 0): 1",
                 "told(2, 0): 4");
+        Run.of("of the last line, though those before it have none",
+                "line(): 0",
+                "line(): 1",
+                "line(): 2",
+                "form(6, 8, 0): 1",
+                "settle(): 0",
+                "told(1, 1): -1",
+                "told(2, 0): 0",
+                "told(2, 1): 0",
+                "told(3, 0): 6");
         Run.of("forms are kept in order, each with its own numbers",
                 "line(): 0",
                 "form(1, 1, 0): 1",

@@ -22,6 +22,13 @@ public final class Promise7ToldTest {
                 "line(): 0", "form(3, 1, 0): 1", "aim(0, 1, 0): -",
                 "settle(): throws.UnsupportedOperationException",
                 "told(0, 0): 0", "told(0, 1): 0", "told(0, 2): 0", "told(1, 0): 3");
+        Run.of("each line for itself: some fit and some do not",
+                "line(): 0", "form(2, 8, 0): 1", "line(): 1", "form(3, 1, 0): 1", "form(4, 1, 0): 2",
+                "line(): 2", "line(): 3", "form(5, 1, 0): 1",
+                "aim(1, 0, 2): -", "aim(2, 0, -1): -", "aim(3, 0, 2): -",
+                "settle(): throws.UnsupportedOperationException",
+                "told(0, 2): 1", "told(1, 2): 0", "told(2, 2): 1", "told(3, 2): 0",
+                "told(0, 1): 0", "told(1, 1): 0", "told(2, 1): -1", "told(3, 1): 0");
         Run.of("which of its forms it has (from 0; -1 without)",
                 "line(): 0", "settle(): 0", "told(0, 1): -1",
                 "form(1, 1, 0): 1", "settle(): 0", "told(0, 1): 0",
